@@ -12,7 +12,7 @@ public final class BallTown {
     private final Text text = new Text();
     private final Turnings turnings = new Turnings();
     private final Walls walls = new Walls();
-    private final Shares shares = new Shares(walls);
+    private final Shares shares = new Shares();
     private final Scene told = new Scene();
     private final Scene now = new Scene();
     private final Scene firstKept = new Scene();
@@ -326,7 +326,7 @@ public final class BallTown {
         if (n < 0 || n > MOST_WALK) {
             return OUTSIDE;
         }
-        return shares.walkCount(from, to, n);
+        return shares.walkCount(walls, from, to, n);
     }
 
     public long odds(int from, int to, int n, int part) {
@@ -336,7 +336,7 @@ public final class BallTown {
         if (n < 0 || n > MOST_ODDS || part < 0 || part > 1) {
             return OUTSIDE;
         }
-        return shares.oddsPart(from, to, n, part);
+        return shares.oddsPart(walls, from, to, n, part);
     }
 
     public int count(int what) {
@@ -875,15 +875,10 @@ public final class BallTown {
         /** Each number of open fields, 1 .. 5, divides it, so that odds stay whole numbers of shares. */
         private static final int SHARES = 60;
 
-        private final Walls walls;
         private final long[] here = new long[FIELDS];
         private final long[] then = new long[FIELDS];
 
-        Shares(Walls walls) {
-            this.walls = walls;
-        }
-
-        long walkCount(int from, int to, int n) {
+        long walkCount(Walls walls, int from, int to, int n) {
             setOut(from);
             for (int step = 0; step < n; step++) {
                 for (int field = 0; field < here.length; field++) {
@@ -894,7 +889,7 @@ public final class BallTown {
             return hereAt(to);
         }
 
-        long oddsPart(int from, int to, int n, int part) {
+        long oddsPart(Walls walls, int from, int to, int n, int part) {
             long below = 1;
             setOut(from);
             for (int step = 0; step < n; step++) {

@@ -138,21 +138,34 @@ public final class ForetoldTest {
         checks.due("0 open to 3: sets", town.wardens(2), 39);
         checks.due("wardens(-1)", town.wardens(-1), OUTSIDE);
         checks.due("wardens(3)", town.wardens(3), OUTSIDE);
+        checks.due("the set asked for first", new BallTown().wardens(1), 83);
+        checks.due("the sets asked for first", new BallTown().wardens(2), 135);
+        checks.tell(town, "town");
+        checks.due("as at first: the least", town.wardens(1), 83);
+        checks.tell(town, SHUT_0);
+        checks.due("shut again", town.wardens(1), NONE);
         BallTown paired = pairedTown();
         checks.due("pairs: all", paired.wardens(0), 12);
         checks.due("pairs: the set", paired.wardens(1), 4095);
         checks.due("pairs: sets", paired.wardens(2), 1);
     }
 
-    /** Six pairs of fields, each pair open to one another and to none else: 24 walls, by 2 texts. */
+    /** Six pairs of fields, each pair open to one another and to none else. */
     private static BallTown pairedTown() {
         int[] mate = {1, 0, 3, 2, 9, 10, 7, 6, 11, 4, 5, 8};
+        BallTown town = townOfPairs(mate, mate);
+        checks.due("24 walls", town.count(4), 24);
+        return town;
+    }
+
+    /** Walls between all that are beside one another but those which the two rows pair, by as many texts as it needs. */
+    private static BallTown townOfPairs(int[] one, int[] two) {
         BallTown town = new BallTown();
         StringBuilder text = new StringBuilder();
         int lines = 0;
         for (int field = 0; field < 12; field++) {
             for (int other = field + 1; other < 12; other++) {
-                if (town.side(field, other) != NONE && mate[field] != other) {
+                if (town.side(field, other) != NONE && one[field] != other && two[field] != other) {
                     text.append(lines == 0 ? "" : ";").append("wall ").append(field).append(' ').append(other);
                     lines++;
                 }
@@ -163,7 +176,9 @@ public final class ForetoldTest {
                 }
             }
         }
-        checks.due("24 walls", town.count(4), 24);
+        if (lines > 0) {
+            checks.tell(town, text.toString());
+        }
         return town;
     }
 
@@ -209,6 +224,28 @@ public final class ForetoldTest {
         checks.due("by two gates", town.rounds(NONE), 120);
         checks.due("first by 3", town.rounds(1), 3);
         checks.due("last by 5", town.rounds(11), 5);
+        checks.tell(town, "town");
+        checks.due("as at first", town.rounds(NONE), 1280);
+        checks.due("a field asked for first", new BallTown().rounds(5), 8);
+        oneRound(first);
+    }
+
+    private static void oneRound(int[] round) {
+        int[] next = new int[12];
+        int[] last = new int[12];
+        for (int i = 0; i < 12; i++) {
+            next[round[i]] = round[(i + 1) % 12];
+            last[round[(i + 1) % 12]] = round[i];
+        }
+        BallTown town = townOfPairs(next, last);
+        checks.due("walls but for one round", town.count(4), 18);
+        checks.due("one round", town.rounds(NONE), 1);
+        for (int i = 0; i < 12; i++) {
+            checks.due("its field " + i, town.rounds(i), round[i]);
+        }
+        checks.tell(town, "wall 7 8");
+        checks.due("its last gate shut", town.rounds(NONE), 0);
+        checks.due("no field then", town.rounds(1), NONE);
     }
 
     private static void walks() {

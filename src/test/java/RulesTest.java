@@ -104,6 +104,8 @@ public final class RulesTest {
             String code = line.strip();
             boolean comment = code.startsWith("/**") || code.startsWith("*") || code.startsWith("//");
             checks.due("line " + (i + 1) + " has what is ruled out: " + code, !comment && RULED_OUT.matcher(code).find() ? 1 : 0, 0);
+            boolean makes = !comment && code.contains("new ");
+            checks.due("made outside constructors, line " + (i + 1), makes && !code.startsWith("private final ") ? 1 : 0, 0);
             if (code.endsWith(") {") && code.matches("(public |private |static )*[\\w\\[\\]]+( \\w+)?\\(.*") && !code.matches("(if|for|while|switch).*")) {
                 methodStart = i;
                 indent = line.substring(0, line.indexOf(code));

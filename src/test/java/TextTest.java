@@ -103,6 +103,12 @@ public final class TextTest {
         fault("towns", 0);
         fault("tow", 0);
         fault("townwheat 0", 0);
+        fault("townz", 0);
+        fault("towna", 0);
+        fault("atown", 0);
+        fault("zown", 0);
+        fault("tawn", 0);
+        fault("towm", 0);
         fault("Town", 0);
         fault("toWn", 0);
         fault("wheat", 5);
