@@ -478,14 +478,14 @@ public final class BallTown {
         private void lay(int a, int s) {
             int turning = number(a, s);
             setGoal(turning, 0, a);
-            ahead[0] = s;
+            setAhead(0, s);
             for (int field = 1; field < ahead.length; field++) {
                 int lower = Ball.across(field, 0);
                 if (lower >= 0 && lower < field) {
                     int lowerGoal = goal(turning, lower);
                     int goal = Ball.across(lowerGoal, Ball.on(ahead[lower], Ball.sideTo(lower, field)));
                     setGoal(turning, field, goal);
-                    ahead[field] = Ball.sideTo(goal, lowerGoal);
+                    setAhead(field, Ball.sideTo(goal, lowerGoal));
                 }
             }
         }
@@ -493,6 +493,12 @@ public final class BallTown {
         private void setGoal(int turning, int field, int goal) {
             if (isTurning(turning) && Ball.isField(field)) {
                 goals[turning * FIELDS + field] = goal;
+            }
+        }
+
+        private void setAhead(int field, int side) {
+            if (field >= 0 && field < ahead.length) {
+                ahead[field] = side;
             }
         }
 
@@ -825,10 +831,10 @@ public final class BallTown {
                 return;
             }
             roundCount = 0;
-            row[0] = 0;
+            putInRow(0, 0);
             for (int second = 1; second < FIELDS; second++) {
                 if (Ball.holds(openTo(0), second)) {
-                    row[1] = second;
+                    putInRow(1, second);
                     int lasts = openTo(0) & -(2 << second);
                     goRound(this, 2, 1 | 1 << second, lasts);
                 }
@@ -841,24 +847,34 @@ public final class BallTown {
          * One of the lasts must be left for the end: without that test the search takes twice as long.
          */
         private static void goRound(Walls walls, int depth, int used, int lasts) {
-            if (depth < 1 || depth >= walls.row.length) {
+            if (depth >= FIELDS) {
                 walls.endRound(lasts);
                 return;
             }
             if ((lasts & ~used) == 0) {
                 return;
             }
-            int next = walls.openTo(walls.row[depth - 1]) & ~used;
+            int next = walls.openTo(walls.inRow(depth - 1)) & ~used;
             for (int field = 1; field < FIELDS; field++) {
                 if ((next >> field & 1) != 0) {
-                    walls.row[depth] = field;
+                    walls.putInRow(depth, field);
                     goRound(walls, depth + 1, used | 1 << field, lasts);
                 }
             }
         }
 
+        private void putInRow(int place, int field) {
+            if (place >= 0 && place < row.length) {
+                row[place] = field;
+            }
+        }
+
+        private int inRow(int place) {
+            return place >= 0 && place < row.length ? row[place] : NONE;
+        }
+
         private void endRound(int lasts) {
-            if (!Ball.holds(lasts, row[FIELDS - 1])) {
+            if (!Ball.holds(lasts, inRow(FIELDS - 1))) {
                 return;
             }
             if (roundCount == 0) {

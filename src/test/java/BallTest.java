@@ -1,10 +1,7 @@
 /** Promises 6 to 10: the ball and its turnings. */
 public final class BallTest {
     private static final int UNKNOWN = -2;
-    private static final int[][] SEWN = {
-        {1, 2, 3, 4, 5}, {0, 5, 10, 6, 2}, {0, 1, 6, 7, 3}, {0, 2, 7, 8, 4}, {0, 3, 8, 9, 5}, {0, 4, 9, 10, 1},
-        {1, 10, 11, 7, 2}, {2, 6, 11, 8, 3}, {3, 7, 11, 9, 4}, {4, 8, 11, 10, 5}, {5, 9, 11, 6, 1}, {10, 9, 8, 7, 6},
-    };
+    private static final int[][] SEWN = Sewn.BALL;
     private static final int[] OPPOSITE = {11, 8, 9, 10, 6, 7, 4, 5, 1, 2, 3, 0};
 
     private static final Checks checks = new Checks();
@@ -22,13 +19,7 @@ public final class BallTest {
     private static void besideAndSide() {
         for (int field = 0; field < 12; field++) {
             for (int other = 0; other < 12; other++) {
-                int want = -1;
-                for (int side = 0; side < 5; side++) {
-                    if (SEWN[field][side] == other) {
-                        want = side;
-                    }
-                }
-                checks.due("side(" + field + ", " + other + ")", town.side(field, other), want);
+                checks.due("side(" + field + ", " + other + ")", town.side(field, other), Sewn.sideOf(field, other));
             }
             for (int side = 0; side < 5; side++) {
                 checks.due("beside(" + field + ", " + side + ")", town.beside(field, side), SEWN[field][side]);
@@ -40,28 +31,10 @@ public final class BallTest {
         for (int field = 0; field < 12; field++) {
             checks.due("other(" + field + ")", town.other(field), OPPOSITE[field]);
             for (int other = 0; other < 12; other++) {
-                int want = field == other ? 0 : OPPOSITE[field] == other ? 3 : isBeside(field, other) ? 1 : 2;
+                int want = field == other ? 0 : OPPOSITE[field] == other ? 3 : Sewn.areBeside(field, other) ? 1 : 2;
                 checks.due("far(" + field + ", " + other + ")", town.far(field, other), want);
             }
         }
-    }
-
-    private static boolean isBeside(int field, int other) {
-        for (int next : SEWN[field]) {
-            if (next == other) {
-                return true;
-            }
-        }
-        return false;
-    }
-
-    private static int sideOf(int field, int other) {
-        for (int side = 0; side < 5; side++) {
-            if (SEWN[field][side] == other) {
-                return side;
-            }
-        }
-        return -1;
     }
 
     /** Each turning is looked at by the words of the document alone: one to one, beside stays so, on stays on. */
@@ -75,7 +48,7 @@ public final class BallTest {
                 for (int field = 0; field < 12; field++) {
                     int goal = town.goes(a, s, field);
                     goals |= 1 << goal;
-                    int shift = sideOf(goal, town.goes(a, s, SEWN[field][0]));
+                    int shift = Sewn.sideOf(goal, town.goes(a, s, SEWN[field][0]));
                     for (int side = 0; side < 5; side++) {
                         checks.due(turning + " at side " + side + " of " + field,
                             town.goes(a, s, SEWN[field][side]), SEWN[goal][(side + shift) % 5]);

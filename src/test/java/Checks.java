@@ -1,3 +1,5 @@
+import java.util.List;
+
 /** Counts and prints the answers that are not as due; every test ends with it. */
 final class Checks {
     private int asked = 0;
@@ -8,6 +10,13 @@ final class Checks {
         if (got != want) {
             wrong++;
             System.out.println(call + " answered " + got + ", due is " + want);
+        }
+    }
+
+    void dueAll(String call, int[] got, int[] want) {
+        due(call + ", how many", got.length, want.length);
+        for (int i = 0; i < got.length && i < want.length; i++) {
+            due(call + " " + i, got[i], want[i]);
         }
     }
 
@@ -48,6 +57,18 @@ final class Checks {
             throw new IllegalArgumentException("a test's text has a fault: " + text);
         }
         return town;
+    }
+
+    /** As many lines as there are pairs, a word ahead of each, by as many texts as they need. */
+    void tellOfPairs(BallTown town, String word, List<int[]> pairs) {
+        StringBuilder text = new StringBuilder();
+        for (int i = 0; i < pairs.size(); i++) {
+            text.append(text.length() == 0 ? "" : ";").append(word).append(pairs.get(i)[0]).append(' ').append(pairs.get(i)[1]);
+            if (i % 12 == 11 || i == pairs.size() - 1) {
+                tell(town, text.toString());
+                text.setLength(0);
+            }
+        }
     }
 
     void end(String test) {
