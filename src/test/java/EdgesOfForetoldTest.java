@@ -13,7 +13,7 @@ public final class EdgesOfForetoldTest {
         aWallIsAheadOfHome();
         alikeFromOneToSixty();
         likeOfNothingKept();
-        likeFromNoneToSixty();
+        likeFromOneToSixty();
         fixedByOneToEight();
         unlikeOfOneToEight();
         whatOfWardens();
@@ -161,8 +161,8 @@ public final class EdgesOfForetoldTest {
         }
     }
 
-    /** "by how many they are as that kept them": by none, if TURNED ones have been left for those of another keep. */
-    private static void likeFromNoneToSixty() {
+    /** "by how many they are as that kept them": one at least, as no text can have been since, but TURNINGS alone. */
+    private static void likeFromOneToSixty() {
         BallTown town = Checks.townOf("wheat 0;well 5");
         town.keep(0);
         for (int turning = 0; turning < 60; turning++) {
@@ -174,6 +174,13 @@ public final class EdgesOfForetoldTest {
         pair.keep(1);
         pair.rotate(7, 1);
         checks.due("two opposite", pair.like(1), 10);
+        pair.keep(0);
+        pair.back(1);
+        checks.due("back, and like those TURNED", pair.like(0), 10);
+        BallTown fallow = new BallTown();
+        fallow.keep(0);
+        fallow.rotate(3, 3);
+        checks.due("all of one kind", fallow.like(0), 60);
         town.step(2);
         checks.due("steps are nothing to it", town.like(0), 1);
     }
