@@ -260,7 +260,9 @@ public final class EdgesOfForetoldTest {
                 checks.due("one is open: there are", town.wardens(0) > 0 ? 1 : 0, 1);
                 checks.due("that one is of them", town.wardens(1) >> next & 1, 1);
                 checks.tell(town, "wall " + field + " " + next);
-                checks.due("shut again", town.wardens(0), NONE);
+                checks.due("shut again: none", town.wardens(0), NONE);
+                checks.due("shut again: no set", town.wardens(1), NONE);
+                checks.due("shut again: no sets", town.wardens(2), 0);
             }
         }
     }
@@ -270,12 +272,28 @@ public final class EdgesOfForetoldTest {
         wardensByEachSet("an open town", new BallTown());
         wardensByEachSet("a ring", rowTown(ROUND, true));
         wardensByEachSet("a row", rowTown(ROUND, false));
+        allAreWardens();
         for (int field = 0; field < 12; field++) {
             for (int side = 0; side < 5; side++) {
                 String text = shut(field) + ";gate " + field + " " + Sewn.BALL[field][side];
                 wardensByEachSet(text, Checks.townOf(text));
             }
         }
+    }
+
+    /** Six pairs, each open within alone: no field can be left out, and no more wardens than these can be needed. */
+    private static void allAreWardens() {
+        int[][] open = {{0, 1}, {2, 3}, {4, 9}, {5, 10}, {6, 7}, {8, 11}};
+        List<int[]> walls = Sewn.pairs();
+        for (int[] two : open) {
+            walls.removeIf(pair -> isPair(pair, two[0], two[1]));
+        }
+        BallTown town = new BallTown();
+        checks.tellOfPairs(town, "wall", walls);
+        checks.due("all: how many", town.wardens(0), 12);
+        checks.due("all: the set", town.wardens(1), 4095);
+        checks.due("all: sets", town.wardens(2), 1);
+        checks.due("six insides", town.count(6), 6);
     }
 
     private static void wardensByEachSet(String name, BallTown town) {
@@ -313,8 +331,8 @@ public final class EdgesOfForetoldTest {
     /** What was foretold once is foretold anew, when a text tells of walls, by each of the words that can. A wall ends 2 of 5 rounds. */
     private static void foretoldAnew() {
         BallTown town = new BallTown();
-        String[] texts = {shut(0), "gate 0 3", "gate 0 5", "wall 3 0", "town", "wall 0 1"};
-        int[] rounds = {0, 0, 120, 0, 1280, 768};
+        String[] texts = {shut(0), "gate 0 3", "gate 0 5", "wall 3 0", "town", "wall 0 1", shut(11)};
+        int[] rounds = {0, 0, 120, 0, 1280, 768, 0};
         for (int i = 0; i < texts.length; i++) {
             checks.tell(town, texts[i]);
             checks.due("rounds behind " + texts[i], town.rounds(NONE), rounds[i]);
