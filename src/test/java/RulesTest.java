@@ -10,6 +10,7 @@ import java.util.Arrays;
 import java.util.List;
 import java.util.Set;
 import java.util.TreeSet;
+import java.util.regex.Matcher;
 import java.util.regex.Pattern;
 
 /** The face of the class, and those rules of LANGUAGE.md that can be read off the class and its source. */
@@ -22,6 +23,12 @@ public final class RulesTest {
     private static final Set<String> CONSTANTS = Set.of("NONE", "UNKNOWN", "OUTSIDE", "NOT", "FULL");
     private static final Pattern RULED_OUT = Pattern.compile("\\b(throw|throws|try|catch|synchronized|assert|import|package|"
         + "Object|System\\.out|lambda|Exact|hashCode|toString|Long\\.[A-Z]|Integer\\.[A-Z])\\b|->|::");
+    /** Rule 3, as far as the class needs it, and what rule 5 lets be static. */
+    private static final Set<String> TYPES = Set.of("void", "int", "long", "boolean", "int[]", "long[]", "String");
+    private static final Set<String> STATIC_TYPES = Set.of("int", "long", "boolean", "char", "String", "int[]", "long[]", "char[]", "byte[]");
+    /** Rule 4, as far as the class needs it. */
+    private static final Set<String> LIBRARY = Set.of("Math.max", "Math.floorMod", "Integer.bitCount", "word.length", "word.charAt");
+    private static final Pattern CALL = Pattern.compile("\\b(Math|Integer|Long|System|Arrays|String|List|word)\\.\\w+");
     private static final Checks checks = new Checks();
 
     public static void main(String[] args) throws IOException {
@@ -31,6 +38,7 @@ public final class RulesTest {
         checks.due("classes, at most 12", all.size() <= 12 ? 1 : 0, 1);
         for (Class<?> one : all) {
             members(one);
+            types(one, all);
         }
         source(Files.readAllLines(Path.of("src/main/java/BallTown.java")));
         checks.end("RulesTest");
@@ -96,6 +104,30 @@ public final class RulesTest {
         checks.due("not public inside: " + one, inside && Modifier.isPublic(one.getModifiers()) ? 1 : 0, 0);
     }
 
+    private static void types(Class<?> one, List<Class<?>> own) {
+        for (Method method : one.getDeclaredMethods()) {
+            type(method + " answers", method.getReturnType(), own);
+            for (Class<?> type : method.getParameterTypes()) {
+                type(method + " takes", type, own);
+            }
+        }
+        for (Field field : one.getDeclaredFields()) {
+            type(field + " is", field.getType(), own);
+            boolean fits = STATIC_TYPES.contains(field.getType().getSimpleName());
+            checks.due("static: " + field, !Modifier.isStatic(field.getModifiers()) || fits ? 1 : 0, 1);
+        }
+    }
+
+    private static void type(String what, Class<?> type, List<Class<?>> own) {
+        checks.due(what + " " + type, own.contains(type) || TYPES.contains(type.getSimpleName()) ? 1 : 0, 1);
+    }
+
+    private static void library(String where, String code) {
+        for (Matcher call = CALL.matcher(code); call.find();) {
+            checks.due(where + " calls " + call.group(), LIBRARY.contains(call.group()) ? 1 : 0, 1);
+        }
+    }
+
     private static void source(List<String> lines) {
         int methodStart = -1;
         String indent = "";
@@ -104,6 +136,7 @@ public final class RulesTest {
             String code = line.strip();
             boolean comment = code.startsWith("/**") || code.startsWith("*") || code.startsWith("//");
             checks.due("line " + (i + 1) + " has what is ruled out: " + code, !comment && RULED_OUT.matcher(code).find() ? 1 : 0, 0);
+            library("line " + (i + 1), comment ? "" : code);
             boolean makes = !comment && code.contains("new ");
             checks.due("made outside constructors, line " + (i + 1), makes && !code.startsWith("private final ") ? 1 : 0, 0);
             if (code.endsWith(") {") && code.matches("(public |private |static )*[\\w\\[\\]]+( \\w+)?\\(.*") && !code.matches("(if|for|while|switch).*")) {
